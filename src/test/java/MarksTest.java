@@ -91,6 +91,22 @@ public final class MarksTest {
         KIT.refused(x, "size(0)", x.size(0), 6);
         KIT.told(x, "reset()", x.reset(), 13);
         KIT.same("CELLS", Kit.cells(x), "1 2 0 3 1 2 0 1 1 1 1 1 1");
+        // RULES that were DROPPED when it was SET, and are there again at the MARK.
+        RaisedPress y = Kit.pressed(TABLE);
+        y.drop(0, true);
+        Kit.writing(y, "ab");
+        y.drop(0, false);
+        y.drop(1, true);
+        y.mark();
+        Kit.writing(y, "ab");
+        KIT.same("CELLS", Kit.cells(y), "5 6");
+        KIT.told(y, "back()", y.back(), 0);
+        KIT.same("CELLS as they were SET", Kit.cells(y), "1 3");
+        KIT.told(y, "used(0)", y.used(0), 0);
+        KIT.told(y, "told(6)", y.told(6), 2);
+        y.mark();
+        KIT.told(y, "back() once more", y.back(), 0);
+        KIT.same("CELLS as they were SET", Kit.cells(y), "1 3");
         // RULES that are DROPPED behind what is SET, kept and taken back with it.
         x.drop(0, true);
         x.mark();

@@ -185,6 +185,18 @@ public final class RowsTest {
         trueOnes("rule ab cells 1;rule cd cells 2;rule bc cells 3;rule abc cells 1 2;"
             + "rule d cells 4;", 1, 1, 2);
         trueOnes("rule ab cells 1;rule cd cells 2;rule abc cells 1;rule d cells 2;", 4, 1, 2);
+        // The WORD can't be SET; it is SET in other CELLS, as many, or in more.
+        trueOnes("rule a cells 1;rule bc cells 2;rule ab cells 3;", 0, 1, 2);
+        trueOnes("rule a cells 1;rule b cells 2;rule ab cells 3 4;", 0, 1, 2);
+        trueOnes("rule a cells 1;rule b cells 2;rule ab cells 3 2;", 0, 1, 2);
+        trueOnes("rule a cells 1;rule b cells 2;rule ab cells 1 3;", 0, 1, 2);
+        trueOnes("rule a cells 1;rule b cells 2;rule ab cells 1 2 3;", 0, 1, 2);
+        int[] twenty = ones(20);
+        trueOnes("rule a cells 1;", 1, twenty);
+        trueOnes("rule zzzzzz cells 1;", 1, twenty);
+        twenty[19] = 2;
+        trueOnes("rule a cells 1;rule b cells 2;rule ab cells 1 2 3;", 0, twenty);
+        trueOnes("rule a cells 1;rule b cells 2;rule ab cells 1 2;", 2, twenty);
         RaisedPress x = row(pair, 3);
         x.drop(2, true);
         KIT.told(x, "truths(0, 1) without ab", x.truths(0, 1), 0);

@@ -300,6 +300,9 @@ public final class SetTest {
         y.drop(0, true);
         KIT.told(y, "plain() without the digit's RULE", y.plain(), 10);
         // RULES with a COND do not count.
+        y.drop(0, false);
+        Kit.writing(y, "b1 1");
+        KIT.told(y, "plain() of the third", y.plain(), 8);
         RaisedPress w = Kit.written("rule a cells 1 begin;rule a cells 1 2 3 end;", "aa");
         KIT.told(w, "size(0)", w.size(0), 4);
         KIT.refused(w, "plain()", w.plain(), 7);
@@ -337,6 +340,10 @@ public final class SetTest {
         KIT.told(v, "fewest()", v.fewest(), 3);
         v.drop(1, true);
         KIT.told(v, "fewest()", v.fewest(), 5);
+        RaisedPress u = simple(4, "number 60;", "ab".repeat(150));
+        KIT.told(u, "fewest() of a WORD of 300", u.fewest(), 300);
+        Kit.writing(u, "a".repeat(299) + "1");
+        KIT.told(u, "fewest() with a digit at the end", u.fewest(), 301);
         RaisedPress w = Kit.written("number 60;rule a cells 1 2;rule b cells 3;", "b1 11");
         KIT.told(w, "fewest() with FIGURES", w.fewest(), 10);
         w.drop(0, true);
@@ -469,6 +476,10 @@ public final class SetTest {
         KIT.refused(x, "alike(4, 0)", x.alike(4, 0), 6);
         KIT.refused(x, "alike(-1, 0)", x.alike(-1, 0), 6);
         KIT.refused(x, "alike(0, -1)", x.alike(0, -1), 6);
+        RaisedPress w = simple(4, "", "a aaaa a b");
+        KIT.same("LINES", Kit.lines(w), "1 | 1 1 1 1 | 1 0 3");
+        KIT.told(w, "alike(0, 2): a blank is not like nothing", w.alike(0, 2), 1);
+        KIT.told(w, "alike(2, 0)", w.alike(2, 0), 1);
         RaisedPress y = simple(4, "hyphen 36;", "aaaaaabb");
         KIT.told(y, "alike(0, 1) with HYPHENS", y.alike(0, 1), 4);
         KIT.told(y, "alike(0, 2)", y.alike(0, 2), 0);
@@ -540,8 +551,16 @@ public final class SetTest {
         KIT.told(x, "frequent(), the first of several", x.frequent(), 1);
         Kit.writing(x, "11 1");
         KIT.refused(x, "frequent() without a letter", x.frequent(), 6);
-        RaisedPress y = Kit.written("capital 1;rule z cells 1;", "zZ");
+        RaisedPress y = Kit.written("capital 1;rule z cells 1;rule b cells 1;rule a cells 1;", "zZ");
         KIT.told(y, "frequent()", y.frequent(), 26);
+        Kit.writing(y, "ab b");
+        KIT.told(y, "frequent() behind another", y.frequent(), 2);
+        Kit.writing(y, "b a");
+        KIT.told(y, "frequent() behind another", y.frequent(), 1);
+        Kit.writing(y, "zab z b");
+        KIT.told(y, "frequent(), the first byte, too", y.frequent(), 2);
+        Kit.writing(y, "z az");
+        KIT.told(y, "frequent(), the first byte, too", y.frequent(), 26);
         RaisedPress z = notSet();
         KIT.refused(z, "frequent()", z.frequent(), 6);
     }
@@ -666,6 +685,9 @@ public final class SetTest {
         Kit.writing(y, "aa aa aaaa a");
         // 2 0 2 | 4 0 1: 1; the last LINE does not count.
         KIT.told(y, "leastRagged()", y.leastRagged(), 1);
+        Kit.writing(y, "a ".repeat(150));
+        // 150 PIECES, three on each of 50 LINES of 5 CELLS.
+        KIT.told(y, "leastRagged() of 150 PIECES", y.leastRagged(), 49);
         Kit.writing(y, "aaaaaaa");
         KIT.refused(y, "leastRagged() with a long PIECE", y.leastRagged(), 7);
         Kit.writing(y, "a aaaaaaa");

@@ -149,7 +149,10 @@ public final class TableTest {
             + "rule e cells 5 6;", 6);
         // Two that are alike, dearer than another way.
         isTwin("rule a cells 9 9 9;rule b cells 9 9 9;rule c cells 1;rule d cells 1 1;", 2);
+        isTwin("rule a cells 1 2;rule b cells 1;rule c cells 2;", 2);
         RaisedPress x = Kit.pressed("rule a cells 1;rule b cells 2;rule c cells 1 2;");
+        KIT.promise(61);
+        KIT.told(x, "twin()", x.twin(), 2);
         x.drop(1, true);
         KIT.promise(60);
         KIT.told(x, "clear() without b", x.clear(), 1);

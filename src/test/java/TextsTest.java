@@ -87,6 +87,15 @@ public final class TextsTest {
         KIT.refused(x, "told(1) of the new one", x.told(1), 6);
         KIT.told(x, "told(6) of the new one", x.told(6), 0);
         KIT.refused(x, "size(0): nothing is SET", x.size(0), 6);
+        Kit.press(x, "capital 1;number 2;hyphen 3;line 4;page 5;rule b cells 1 2 3 end;");
+        KIT.told(x, "press() of another", Kit.press(x, "rule b cells 4;"), 1);
+        for (int what = 1; what <= 3; what++) {
+            KIT.refused(x, "told(sign) of the new one", x.told(what), 6);
+        }
+        KIT.told(x, "told(4) of the new one", x.told(4), 32);
+        KIT.told(x, "told(5) of the new one", x.told(5), 25);
+        KIT.told(x, "rule(0, 1) of the new one", x.rule(0, 1), 1);
+        KIT.told(x, "rule(0, 2) of the new one", x.rule(0, 2), 0);
         Kit.feed(x, "rule b");
         KIT.refused(x, "press(-1)", x.press(-1), 1);
         KIT.refused(x, "press(21)", x.press(21), 1);
@@ -153,6 +162,7 @@ public final class TextsTest {
         faulty("hyphen 1;hyphen 1;", 5, 9);
         faulty("line 4;line 4;", 5, 7);
         faulty("page 2;page 2;", 5, 7);
+        faulty("capital 1;page 2;number 3;capital 1;", 5, 26);
         faulty("rule a cells 1 2 3 4;", 5, 19);
         // Of one TOKEN the least kind: a fourth CELL that can't be.
         faulty("rule a cells 1 2 3 64;", 4, 19);
@@ -224,6 +234,13 @@ public final class TextsTest {
         isSet("1a", "60 1 16");
         isSet("  a \n b\n", "16 0 3");
         isSet("ab abc", "1 3 0 5 9");
+        // One WRITING behind another, on one object: nothing of the one ahead counts.
+        RaisedPress y = Kit.pressed(TABLE);
+        for (String text : new String[] {"abcdabcd", "abcabcabcabc", "a ab", "abc a"}) {
+            Kit.writing(y, text);
+            KIT.same("CELLS of " + text, Kit.cells(y), Kit.cells(Kit.written(TABLE, text)));
+        }
+        KIT.same("CELLS of the last", Kit.cells(y), "5 9 0 16");
         RaisedPress x = Kit.pressed(TABLE);
         KIT.refused(x, "writing(-1)", x.writing(-1), 1);
         KIT.refused(x, "writing(1)", x.writing(1), 1);
