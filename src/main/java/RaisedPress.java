@@ -869,9 +869,9 @@ public final class RaisedPress {
         return isSmall(b) || isGreat(b);
     }
 
-    /** 1 (a, A) to 26 of a letter's byte. */
+    /** 1 (a, A) to 26 of a letter's byte: small and great ones have the same last five bits. */
     private static int letterOf(int b) {
-        return isGreat(b) ? b - 64 : b - 96;
+        return b & 31;
     }
 
     /** The letter whose RULE stands for a digit: a for 1 .. i for 9, j for 0. */
@@ -1590,12 +1590,18 @@ public final class RaisedPress {
                 }
                 if (isBlank(text[at])) {
                     gap = many > 0;
-                } else {
-                    if (gap) {
-                        add(0, NONE);
-                    }
+                    continue;
+                }
+                if (gap) {
+                    add(0, NONE);
                     gap = false;
-                    next = at + setByte(text, n, at, table);
+                }
+                if (isDigit(text[at])) {
+                    next = at + setDigit(text, at, table);
+                } else if (isLetter(text[at])) {
+                    next = at + setLetters(text, n, at, table);
+                } else {
+                    next = at + faulty(1, at);
                 }
             }
             return fault == 0;
@@ -1629,27 +1635,14 @@ public final class RaisedPress {
             uses[rule]++;
         }
 
+        /** A byte with a FAULT ends the SETTING; it counts as one byte. */
         private int faulty(int kind, int at) {
             fault = kind;
             place = at;
             return 1;
         }
 
-        /** How many bytes it SET from this one on. */
-        private int setByte(int[] text, int n, int at, Table table) {
-            if (isDigit(text[at])) {
-                return setDigit(text, at, table);
-            }
-            if (!isLetter(text[at])) {
-                return faulty(1, at);
-            }
-            if (at >= wordTo) {
-                wordFrom = at;
-                wordTo = wordEnd(text, n, at);
-            }
-            return setLetters(text, at, table);
-        }
-
+        /** How many bytes it SET. */
         private int setDigit(int[] text, int at, Table table) {
             int rule = table.plainRule(letterOfDigit(text[at]), dropped);
             if (table.signs[NUMBER] == 0 || rule == NONE) {
@@ -1662,7 +1655,12 @@ public final class RaisedPress {
             return 1;
         }
 
-        private int setLetters(int[] text, int at, Table table) {
+        /** How many bytes it SET: those of a RULE's letters. */
+        private int setLetters(int[] text, int n, int at, Table table) {
+            if (at >= wordTo) {
+                wordFrom = at;
+                wordTo = wordEnd(text, n, at);
+            }
             int rule = table.longestRule(text, wordFrom, wordTo, at, dropped);
             if (rule == NONE) {
                 return faulty(3, at);
@@ -1859,7 +1857,7 @@ public final class RaisedPress {
         /** How many READINGS what is left of the ROW has, from each place on. */
         private final int[] waysFrom = new int[MOST_ROW + 1];
         private final int[] text = new int[MOST_ROW * MOST_LETTERS];
-        /** After so many RULES: how many letters there are, how many are SET, in how many CELLS. */
+        /** After so many RULES (none: 0): how many letters, how many of them SET, in how many CELLS. */
         private final int[] texted = new int[MOST_ROW + 1];
         private final int[] textSet = new int[MOST_ROW + 1];
         private final int[] cellsSet = new int[MOST_ROW + 1];
@@ -1927,9 +1925,6 @@ public final class RaisedPress {
         }
 
         int trueReadings(Table table) {
-            texted[0] = 0;
-            textSet[0] = 0;
-            cellsSet[0] = 0;
             return trueFrom(this, table, 0, 0);
         }
 

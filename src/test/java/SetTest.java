@@ -594,6 +594,10 @@ public final class SetTest {
         KIT.told(x, "signs(1) of what is SET", x.signs(1), 4);
         KIT.refused(x, "signs(2)", x.signs(2), 1);
         KIT.refused(x, "signs(-1)", x.signs(-1), 1);
+        Kit.writing(x, "aA1");
+        Kit.writing(x, "a");
+        KIT.told(x, "signs(0) behind another", x.signs(0), 0);
+        KIT.told(x, "signs(1) behind another", x.signs(1), 0);
         Kit.writing(x, "");
         KIT.told(x, "signs(0)", x.signs(0), 0);
         KIT.told(x, "signs(1)", x.signs(1), 0);
@@ -688,6 +692,8 @@ public final class SetTest {
         Kit.writing(y, "a ".repeat(150));
         // 150 PIECES, three on each of 50 LINES of 5 CELLS.
         KIT.told(y, "leastRagged() of 150 PIECES", y.leastRagged(), 49);
+        Kit.writing(y, " ");
+        KIT.told(y, "leastRagged() of none behind it", y.leastRagged(), 0);
         Kit.writing(y, "aaaaaaa");
         KIT.refused(y, "leastRagged() with a long PIECE", y.leastRagged(), 7);
         Kit.writing(y, "a aaaaaaa");

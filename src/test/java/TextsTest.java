@@ -120,6 +120,10 @@ public final class TextsTest {
         faulty(";", 2, 0);
         faulty("rules a cells 1;", 2, 0);
         faulty("rul a cells 1;", 2, 0);
+        faulty("xule a cells 1;", 2, 0);
+        faulty("rule a xells 1;", 2, 7);
+        faulty("rule a cells 1 xnd;", 2, 15);
+        faulty("xage 2;", 2, 0);
         faulty("rule abcdefg cells 1;", 2, 5);
         faulty("rule 1 cells 1;", 2, 5);
         faulty("rule ; cells 1;", 2, 5);
@@ -186,6 +190,12 @@ public final class TextsTest {
         faulty(rules(25), 6, 360);
         faulty(rules(24) + "rule", 6, 360);
         faulty(rules(24) + "rules", 2, 360);
+        RaisedPress y = Kit.pressed(rules(23) + "rule zzzzzz cells 61 62 63 alone;");
+        KIT.told(y, "letter(23, 5)", y.letter(23, 5), 26);
+        KIT.told(y, "cellOf(23, 2)", y.cellOf(23, 2), 63);
+        KIT.told(y, "rule(23, 2)", y.rule(23, 2), 4);
+        y.drop(23, true);
+        KIT.told(y, "told(6)", y.told(6), 1 << 23);
         RaisedPress x = Kit.pressed(rules(24));
         KIT.told(x, "letter(23, 0)", x.letter(23, 0), 24);
         // A text of 900 bytes.
