@@ -406,15 +406,22 @@ public final class RaisedPress {
 
     private int plainCells() {
         int ofLetters = script.plainLetterCells(table);
-        return ofLetters == NONE ? NONE : ofLetters + shown.many - shown.letterCells;
+        return ofLetters == NONE ? NONE : ofLetters + cellsBesideLetters();
+    }
+
+    /** Those of CAPITALS, FIGURES and blanks; a great letter begins a RULE, whichever is taken. */
+    private int cellsBesideLetters() {
+        return shown.many - shown.letterCells;
     }
 
     public int fewest() {
         if (!isSet) {
             return refuse(NONE_SUCH);
         }
-        int least = script.fewestCells(table);
-        return answerOr(least != NONE, least, CANNOT_BE);
+        if (cellsWith(table.dropped) == NONE) {
+            return refuse(CANNOT_BE);
+        }
+        return answer(script.fewestLetterCells(table) + cellsBesideLetters());
     }
 
     /** How many CELLS the WRITING would take with these RULES DROPPED; NONE with a FAULT. */
@@ -441,10 +448,6 @@ public final class RaisedPress {
         if (!isSet) {
             return refuse(NONE_SUCH);
         }
-        int now = cellsWith(table.dropped);
-        if (now == NONE) {
-            return refuse(CANNOT_BE);
-        }
         int best = NONE;
         int least = 0;
         for (int r = 0; r < table.rules; r++) {
@@ -454,7 +457,10 @@ public final class RaisedPress {
                 least = without;
             }
         }
-        return answerOr(best != NONE, best, NONE_SUCH);
+        if (best == NONE) {
+            return refuse(NONE_SUCH);
+        }
+        return answerOr(cellsWith(table.dropped) != NONE, best, CANNOT_BE);
     }
 
     public int piece(int k, int what) {
@@ -1441,10 +1447,6 @@ public final class RaisedPress {
             return isDigit(bytes[k]) && (k == 0 || !isDigit(bytes[k - 1]));
         }
 
-        private boolean beginsPiece(int k) {
-            return !isBlank(bytes[k]) && (k == 0 || isBlank(bytes[k - 1]));
-        }
-
         private boolean beginsWord(int k) {
             return isLetter(bytes[k]) && (k == 0 || !isLetter(bytes[k - 1]));
         }
@@ -1510,33 +1512,15 @@ public final class RaisedPress {
             return found;
         }
 
-        int fewestCells(Table table) {
+        /** The fewest CELLS that all letters' RULES could have, of a WRITING that can be SET. */
+        int fewestLetterCells(Table table) {
             int found = 0;
-            int pieces = 0;
             for (int k = 0; k < many; k++) {
-                if (beginsPiece(k)) {
-                    pieces++;
+                if (beginsWord(k)) {
+                    found += fewestOfWord(k, wordEnd(bytes, many, k), table);
                 }
-                int here = 0;
-                if (isDigit(bytes[k])) {
-                    here = digitCells(k, table);
-                } else if (beginsWord(k)) {
-                    here = fewestOfWord(k, wordEnd(bytes, many, k), table);
-                }
-                if (here == NONE) {
-                    return NONE;
-                }
-                found += here;
             }
-            return found + Math.max(0, pieces - 1);
-        }
-
-        private int digitCells(int k, Table table) {
-            int rule = table.plainRule(letterOfDigit(bytes[k]), table.dropped);
-            if (rule == NONE) {
-                return NONE;
-            }
-            return table.cellCount[rule] + (beginsFigure(k) ? 1 : 0);
+            return found;
         }
 
         /** From the WORD's end to its beginning: the fewest CELLS of what is left of it. */
@@ -1557,7 +1541,7 @@ public final class RaisedPress {
             if (rest == NONE) {
                 return;
             }
-            int whole = cells + rest + (isGreat(bytes[at]) ? 1 : 0);
+            int whole = cells + rest;
             if (work[at] == NONE || whole < work[at]) {
                 work[at] = whole;
             }

@@ -707,23 +707,20 @@ public final class Model {
         if (set == null) {
             return no(6);
         }
+        if (cellsWithout(dropped) == null) {
+            return no(7);
+        }
         int all = 0;
         Matcher m = Pattern.compile("[A-Za-z]+|[0-9]+|[ \\n]+").matcher(writing);
         while (m.find()) {
             if (m.group().matches("[A-Za-z]+")) {
-                Integer here = fewestOf(m.group(), 0, new HashMap<>());
-                if (here == null) {
-                    return no(7);
-                }
-                all += here;
+                all += fewestOf(m.group(), 0, new HashMap<>());
             } else if (m.group().matches("[0-9]+")) {
-                List<SetCell> cells = new ArrayList<>();
-                try {
-                    setFigure(m.group(), 0, dropped, cells);
-                } catch (Fault f) {
-                    return no(7);
+                all += 1;
+                for (char digit : m.group().toCharArray()) {
+                    char letter = (char) (digit == '0' ? 'j' : digit + 48);
+                    all += rules.get(single(letter, dropped)).cells().size();
                 }
-                all += cells.size();
             } else if (m.start() > 0 && m.end() < writing.length()) {
                 all++;
             }
@@ -731,14 +728,19 @@ public final class Model {
         return yes(all);
     }
 
-    private Integer savingOf(int rule) {
-        TreeSet<Integer> without = new TreeSet<>(dropped);
-        without.add(rule);
+    /** How many CELLS the WRITING would take without these RULES; null if it could not be SET. */
+    private Integer cellsWithout(TreeSet<Integer> gone) {
         try {
-            return setting(writing, without).size() - setting(writing, dropped).size();
+            return setting(writing, gone).size();
         } catch (Fault f) {
             return null;
         }
+    }
+
+    private Integer cellsWithoutOneMore(int rule) {
+        TreeSet<Integer> gone = new TreeSet<>(dropped);
+        gone.add(rule);
+        return cellsWithout(gone);
     }
 
     public int saving(int rule) {
@@ -748,27 +750,28 @@ public final class Model {
         if (set == null) {
             return no(6);
         }
-        Integer saving = savingOf(rule);
-        return saving == null ? no(7) : yes(saving);
+        Integer now = cellsWithout(dropped);
+        Integer then = cellsWithoutOneMore(rule);
+        return now == null || then == null ? no(7) : yes(then - now);
     }
 
     public int cheapest() {
         if (set == null) {
             return no(6);
         }
-        try {
-            setting(writing, dropped);
-        } catch (Fault f) {
-            return no(7);
-        }
         List<Integer> could = new ArrayList<>();
         for (int r = 0; r < rules.size(); r++) {
-            if (!dropped.contains(r) && savingOf(r) != null) {
+            if (!dropped.contains(r) && cellsWithoutOneMore(r) != null) {
                 could.add(r);
             }
         }
-        return could.stream().min(Comparator.comparing(this::savingOf)).map(this::yes)
-            .orElseGet(() -> no(6));
+        if (could.isEmpty()) {
+            return no(6);
+        }
+        if (cellsWithout(dropped) == null) {
+            return no(7);
+        }
+        return yes(could.stream().min(Comparator.comparing(this::cellsWithoutOneMore)).get());
     }
 
     public int piece(int k, int what) {

@@ -65,6 +65,8 @@ public final class OracleTest {
                 text("writing", writingText());
             } else if (draw < 13) {
                 row();
+            } else if (draw < 16) {
+                drops();
             } else {
                 Method m = asked.get(random.nextInt(asked.size()));
                 if (!m.getName().equals("drop") || random.nextInt(3) == 0) {
@@ -236,6 +238,27 @@ public final class OracleTest {
             s.append(1 + random.nextInt(Math.min(9, letters)));
         }
         return s.toString();
+    }
+
+    // ---- RULES as they are
+
+    /** Some RULES are DROPPED for a while: what goes by the RULES as they are is asked then. */
+    private void drops() throws Exception {
+        List<Integer> gone = new ArrayList<>();
+        for (int k = random.nextInt(3); k >= 0 && !rules.isEmpty(); k--) {
+            gone.add(random.nextInt(rules.size()));
+            call("drop", gone.get(gone.size() - 1), true);
+        }
+        for (String name : List.of("fewest", "cheapest", "plain", "reset")) {
+            if (random.nextInt(name.equals("reset") ? 4 : 2) == 0) {
+                call(name);
+            }
+        }
+        for (int rule : gone) {
+            if (random.nextInt(4) != 0) {
+                call("drop", rule, false);
+            }
+        }
     }
 
     // ---- TRAYS and numbers

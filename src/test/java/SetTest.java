@@ -332,7 +332,24 @@ public final class SetTest {
         y.drop(2, false);
         Kit.writing(y, "abc");
         y.drop(2, true);
-        KIT.told(y, "fewest(), though not by the longest RULES", y.fewest(), 2);
+        KIT.refused(y, "fewest(), a bc is not by the longest RULES", y.fewest(), 7);
+        KIT.told(y, "size(0): what is SET stays", y.size(0), 4);
+        y.drop(3, true);
+        KIT.told(y, "fewest() without ab, too", y.fewest(), 2);
+        y.drop(4, true);
+        KIT.refused(y, "fewest() by no RULES at all", y.fewest(), 7);
+        // The longest RULES go into no dead end here, but take more CELLS than a bc.
+        RaisedPress t = Kit.written("capital 8;rule ab cells 1 2 3;rule a cells 1;rule bc cells 2;"
+            + "rule c cells 4 5 6;", "abc Abc");
+        KIT.told(t, "size(0) of abc Abc", t.size(0), 6 + 7 + 1);
+        KIT.told(t, "fewest() of abc Abc", t.fewest(), 2 + 3 + 1);
+        t.drop(2, true);
+        KIT.told(t, "fewest() without bc", t.fewest(), 6 + 7 + 1);
+        t.drop(2, false);
+        t.drop(3, true);
+        KIT.refused(t, "fewest() without c", t.fewest(), 7);
+        t.drop(0, true);
+        KIT.told(t, "fewest() without c and ab", t.fewest(), 2 + 3 + 1);
         // CONDS count: ab may stand at the beginning alone.
         RaisedPress v = Kit.written("rule ab cells 1 begin;rule abab cells 1 1 1;rule a cells 1 2;"
             + "rule b cells 1 2;", "abab");
@@ -389,7 +406,18 @@ public final class SetTest {
         y.drop(0, true);
         KIT.refused(y, "cheapest(): none such", y.cheapest(), 6);
         y.drop(2, true);
-        KIT.refused(y, "cheapest() when it can't be SET", y.cheapest(), 7);
+        KIT.refused(y, "cheapest(): it can't be SET, and none such", y.cheapest(), 6);
+        y.drop(3, true);
+        y.drop(4, true);
+        KIT.refused(y, "cheapest() when all are DROPPED", y.cheapest(), 6);
+        // ab leads to c, for which there is no RULE; without ab it could be SET: a bc.
+        RaisedPress v = Kit.written("rule abc cells 1;rule ab cells 2;rule a cells 1;"
+            + "rule bc cells 3;", "abc");
+        KIT.told(v, "cheapest(), but not abc", v.cheapest(), 1);
+        v.drop(0, true);
+        KIT.refused(v, "cheapest(): it can't be SET, but without ab", v.cheapest(), 7);
+        v.drop(1, true);
+        KIT.refused(v, "cheapest(): a and bc must both be there", v.cheapest(), 6);
         RaisedPress w = Kit.written("rule a cells 1;rule b cells 1;rule ab cells 1 2 3;", "ab");
         KIT.told(w, "cheapest() with a SAVING below 0", w.cheapest(), 2);
         RaisedPress z = notSet();
