@@ -191,6 +191,9 @@ public final class RowsTest {
         trueOnes("rule a cells 1;rule b cells 2;rule ab cells 3 2;", 0, 1, 2);
         trueOnes("rule a cells 1;rule b cells 2;rule ab cells 1 3;", 0, 1, 2);
         trueOnes("rule a cells 1;rule b cells 2;rule ab cells 1 2 3;", 0, 1, 2);
+        // What one READING's letters are SET by says nothing of another one's.
+        trueOnes("rule a cells 1;rule bbbbbb cells 2;rule b cells 2;rule ab cells 3;", 0, 1, 2);
+        trueOnes("rule a cells 1;rule bbbbbb cells 2;rule c cells 2;rule ab cells 3;", 1, 1, 2);
         int[] twenty = ones(20);
         trueOnes("rule a cells 1;", 1, twenty);
         trueOnes("rule zzzzzz cells 1;", 1, twenty);
