@@ -37,7 +37,7 @@ public final class AfterwardsTest {
             s.append(";");
         }
         Kit.press(x, s.toString());
-        for (int k = 0; k < 3; k++) {
+        for (int k = 0; k < 2; k++) {
             Kit.writing(x, "A".repeat(300));
             Kit.writing(x, "a ".repeat(150));
             Kit.writing(x, "1 ".repeat(100) + "aB");
@@ -57,31 +57,35 @@ public final class AfterwardsTest {
     }
 
     private static void behindLonger(String press, String text) {
-        RaisedPress y = Kit.pressed(press);
-        int due = Kit.writing(y, text);
-        for (int marks = 0; marks < 2; marks++) {
-            RaisedPress x = new RaisedPress();
-            if (marks == 1) {
-                Kit.press(x, press);
-                Kit.writing(x, text);
-                x.mark();
-            }
-            fill(x);
-            if (marks == 1) {
-                x.back();
-            } else {
-                Kit.press(x, press);
-                KIT.promise(11);
-                KIT.due("writing() of " + text, Kit.writing(x, text), due);
-            }
-            KIT.promise(marks == 1 ? 67 : 10);
-            KIT.same("what is told of " + text + " by " + press, Story.ofSet(x), Story.ofSet(y));
-        }
+        String due = Story.ofSet(() -> Kit.written(press, text));
+        KIT.promise(11);
+        KIT.same("what is told of " + text + " by " + press + " behind longer ones",
+            Story.ofSet(() -> behindOthers(press, text)), due);
+        KIT.promise(67);
+        KIT.same("what is told of " + text + " by " + press + " behind back()",
+            Story.ofSet(() -> behindBack(press, text)), due);
+        KIT.promise(10);
+        KIT.same("what is told of " + press + ", nothing SET", Story.ofSet(() -> {
+            RaisedPress x = behindOthers("", "");
+            Kit.press(x, press);
+            return x;
+        }), Story.ofSet(() -> Kit.pressed(press)));
+    }
+
+    private static RaisedPress behindOthers(String press, String text) {
         RaisedPress x = new RaisedPress();
         fill(x);
         Kit.press(x, press);
-        KIT.promise(10);
-        KIT.same("what is told of " + press, Story.ofSet(x), Story.ofSet(Kit.pressed(press)));
+        Kit.writing(x, text);
+        return x;
+    }
+
+    private static RaisedPress behindBack(String press, String text) {
+        RaisedPress x = Kit.written(press, text);
+        x.mark();
+        fill(x);
+        x.back();
+        return x;
     }
 
     /** ROWS behind longer ones, by RULES of which there were more ahead. */
@@ -123,15 +127,18 @@ public final class AfterwardsTest {
             KIT.told(x, "size(0) of " + texts[k], x.size(0), cells[k]);
             KIT.promise(43);
             KIT.told(x, "covers(0) of " + texts[k], x.covers(0), covers[k]);
-            String told = Story.ofSet(x);
+            String text = texts[k];
+            String told = Story.ofSet(() -> Kit.written(s.toString(), text));
             KIT.promise(18);
             KIT.told(x, "reset() of " + texts[k], x.reset(), cells[k]);
-            KIT.same("what is told of " + texts[k], Story.ofSet(x), told);
+            KIT.same("what is told of " + texts[k] + " behind reset()", Story.ofSet(() -> {
+                RaisedPress y = Kit.written(s.toString(), text);
+                y.reset();
+                return y;
+            }), told);
             KIT.promise(67);
-            x.mark();
-            fill(x);
-            x.back();
-            KIT.same("what is told of " + texts[k] + " behind back()", Story.ofSet(x), told);
+            KIT.same("what is told of " + texts[k] + " behind back()",
+                Story.ofSet(() -> behindBack(s.toString(), text)), told);
         }
     }
 }

@@ -100,6 +100,7 @@ public final class RowEdgesTest {
             KIT.refused(x, name + " of TRAY 4", ask.of(x, 4, 1), 1);
             KIT.refused(x, name + " of TRAY 1, MISSING", ask.of(x, 1, 1), 2);
             for (int size = 0; size <= 20; size++) {
+                x = single();
                 row(x, 0, 0, all(size, 1));
                 for (int many = Math.max(1, size); many <= Math.min(20, size + 1); many++) {
                     int got = ask.of(x, 0, many);
@@ -116,9 +117,9 @@ public final class RowEdgesTest {
             KIT.promise(promise);
             boolean dots = ask == FAILED_DOTS;
             long[] bad = {-1, 64, 65, 127, 1000, Long.MIN_VALUE, Long.MAX_VALUE, (1L << 32) + 1};
-            RaisedPress x = single();
-            row(x, 0, 3, all(21, 1));
             for (int at = 0; at < 21; at++) {
+                RaisedPress x = single();
+                row(x, 0, 3, all(21, 1));
                 for (long v : bad) {
                     x.write(0, at, v);
                     int got = ask.of(x, 0, 20);
@@ -131,7 +132,6 @@ public final class RowEdgesTest {
                 ask.of(x, 0, 20);
                 KIT.due("status() of " + name + " with 63", x.status(),
                     ask == FIRST && at < 20 ? 6 : 0);
-                x.write(0, at, 1);
             }
         });
     }
@@ -673,8 +673,8 @@ public final class RowEdgesTest {
     private static void seeds() {
         KIT.promise(65);
         for (int sixteenths = 0; sixteenths <= 16; sixteenths++) {
-            RaisedPress x = Kit.written("rule a cells 3;rule b cells 4 8;", "ab a");
             for (int many = 1; many <= 20; many++) {
+                RaisedPress x = Kit.written("rule a cells 3;rule b cells 4 8;", "ab a");
                 int seed = many % 2 == 0 ? 10000 - many : 37 * many;
                 int held = 0;
                 for (int k = 0; k < many; k++) {

@@ -1,193 +1,230 @@
-/** All that can be told of an object, as one text; it asks more calls than an object is good for. */
+import java.util.function.Supplier;
+import java.util.function.ToLongFunction;
+
+/**
+ * All that can be told of an object, as one text. What asks many calls asks them of many objects,
+ * each made anew in the same way, so that none is used for more than 512 calls.
+ */
 final class Story {
 
+    /** Calls asked of one object, two at once now and then: it takes some to make it, too. */
+    private static final int MOST_ASKED = 150;
+
     private final StringBuilder told = new StringBuilder();
+    private Supplier<RaisedPress> maker;
+    private RaisedPress object = null;
+    private int asked = 0;
 
-    private Story() {
+    private Story(Supplier<RaisedPress> maker) {
+        this.maker = maker;
     }
 
-    private void tell(long answer) {
-        told.append(answer).append(' ');
-    }
-
-    private void tell(RaisedPress x, long answer) {
-        told.append(answer).append('/').append(x.status()).append(' ');
-    }
-
-    /** What is on the tape and under the MARKS is told last: it is gone then. */
-    static String of(RaisedPress x, boolean faultToo) {
-        Story s = new Story();
+    /** What is on the tape and under the MARKS, too. */
+    static String of(Supplier<RaisedPress> maker, boolean faultToo) {
+        Story s = new Story(maker);
         if (faultToo) {
-            s.tell(x.fault(0));
-            s.tell(x.fault(1));
+            s.askBare(x -> x.fault(0));
+            s.askBare(x -> x.fault(1));
         }
-        s.tell(x.top());
-        s.tell(x.bottom());
-        s.trays(x);
-        s.table(x);
-        s.set(x);
-        s.kept(x);
+        s.askBare(x -> x.top());
+        s.askBare(x -> x.bottom());
+        s.trays();
+        s.table();
+        s.set();
+        s.kept();
+        Supplier<RaisedPress> back = maker;
         for (int k = 0; k < 4; k++) {
-            s.told.append("\nback: ");
-            s.tell(x, x.back());
-            s.table(x);
-            s.set(x);
+            s.chapter("back", back);
+            s.ask(x -> x.back());
+            back = behind(back, x -> x.back());
+            s.chapter("behind back", back);
+            s.table();
+            s.set();
         }
-        s.kept(x);
-        s.tape(x);
+        s.kept();
+        s.chapter("reset", maker);
+        s.ask(x -> x.reset());
+        s.chapter("behind reset", behind(maker, x -> x.reset()));
+        s.set();
+        s.tape(maker);
         return s.told.toString();
     }
 
     /** What follows from the PRESS and the WRITING alone. */
-    static String ofSet(RaisedPress x) {
-        Story s = new Story();
-        s.table(x);
-        s.set(x);
-        s.wear(x);
+    static String ofSet(Supplier<RaisedPress> maker) {
+        Story s = new Story(maker);
+        s.table();
+        s.set();
+        s.wear(maker);
         return s.told.toString();
     }
 
     /** What the RULES say of a ROW. */
-    static String ofRow(RaisedPress x, int tray, int many) {
-        Story s = new Story();
-        s.tell(x, x.ways(tray, many));
-        s.tell(x, x.truths(tray, many));
-        s.tell(x, x.failed(tray, tray, many));
-        s.tell(x, x.first(tray, many));
-        s.tell(x, x.letters());
-        for (int k = 0; k <= many; k++) {
-            s.tell(x, x.firstAt(k));
-        }
+    static String ofRow(RaisedPress object, int tray, int many) {
+        Story s = new Story(() -> object);
+        s.ask(x -> x.ways(tray, many));
+        s.ask(x -> x.truths(tray, many));
+        s.ask(x -> x.failed(tray, tray, many));
+        s.ask(x -> x.first(tray, many));
+        s.ask(x -> x.letters());
+        s.each(0, many, (x, k) -> x.firstAt(k));
         return s.told.toString();
     }
 
-    private void trays(RaisedPress x) {
+    private interface Place {
+        long of(RaisedPress x, int k);
+    }
+
+    private static Supplier<RaisedPress> behind(Supplier<RaisedPress> maker,
+        ToLongFunction<RaisedPress> call) {
+        return () -> {
+            RaisedPress x = maker.get();
+            call.applyAsLong(x);
+            return x;
+        };
+    }
+
+    private void chapter(String name, Supplier<RaisedPress> next) {
+        told.append('\n').append(name).append(": ");
+        maker = next;
+        object = null;
+    }
+
+    /** A call without a STATUS. */
+    private long askBare(ToLongFunction<RaisedPress> question) {
+        if (object == null || asked >= MOST_ASKED) {
+            object = maker.get();
+            asked = 0;
+        }
+        asked++;
+        long answer = question.applyAsLong(object);
+        told.append(answer).append(' ');
+        return answer;
+    }
+
+    private long ask(ToLongFunction<RaisedPress> question) {
+        long answer = askBare(question);
+        asked++;
+        told.append('/').append(object.status()).append(' ');
+        return answer;
+    }
+
+    private void each(int from, int to, Place place) {
+        for (int k = from; k <= to; k++) {
+            int at = k;
+            ask(x -> place.of(x, at));
+        }
+    }
+
+    /** Of many places some forty, and the last ones. */
+    private void some(long many, Place place) {
+        int step = (int) Math.max(1, many / 40);
+        for (int k = 0; k <= many; k += k + step < many - 1 ? step : 1) {
+            int at = k;
+            ask(x -> place.of(x, at));
+        }
+    }
+
+    private void trays() {
         told.append("\ntrays: ");
         for (int t = 0; t < 4; t++) {
-            for (int k = 0; k < 60; k++) {
-                long v = x.read(t, k);
-                if (x.status() != 0) {
-                    tell(x, -1);
-                    break;
-                }
-                tell(v);
-            }
+            int tray = t;
+            each(-1, 60, (x, k) -> x.read(tray, k));
         }
     }
 
-    private void table(RaisedPress x) {
+    private void table() {
         told.append("\ntable: ");
-        for (int what = 0; what <= 6; what++) {
-            tell(x, x.told(what));
+        each(0, 6, (x, what) -> x.told(what));
+        int rules = (int) ask(x -> x.told(0));
+        for (int r = 0; r < rules; r++) {
+            int rule = r;
+            each(0, 2, (x, what) -> x.rule(rule, what));
+            each(0, 6, (x, k) -> x.letter(rule, k));
+            each(0, 3, (x, k) -> x.cellOf(rule, k));
+            ask(x -> x.turned(rule));
+            each(0, rules - 1, (x, k) -> 10 * x.near(rule, k) + x.clash(rule, k));
         }
-        for (int r = 0; r < x.told(0); r++) {
-            for (int k = 0; k < x.rule(r, 0); k++) {
-                tell(x.letter(r, k));
-            }
-            for (int k = 0; k < x.rule(r, 1); k++) {
-                tell(x.cellOf(r, k));
-            }
-            tell(x.rule(r, 2));
-            tell(x.turned(r));
-            for (int o = 0; o < x.told(0); o++) {
-                tell(x.near(r, o));
-                tell(x.clash(r, o));
-            }
-        }
-        tell(x.twins());
-        tell(x.clashes());
-        tell(x.clear());
-        tell(x, x.twin());
-        tell(x.lacks());
+        ask(x -> x.twins());
+        ask(x -> x.clashes());
+        ask(x -> x.clear());
+        ask(x -> x.twin());
+        ask(x -> x.lacks());
     }
 
-    private void set(RaisedPress x) {
+    private void set() {
         told.append("\nset: ");
-        for (int what = 0; what <= 4; what++) {
-            tell(x, x.size(what));
+        each(0, 4, (x, what) -> x.size(what));
+        some(ask(x -> x.size(0)), (x, k) -> x.cell(k));
+        some(ask(x -> x.size(0)), (x, k) -> x.by(k));
+        some(ask(x -> x.size(0)), (x, k) -> x.pieceOf(k));
+        some(ask(x -> x.size(1)), (x, k) -> x.inLine(k));
+        some(ask(x -> x.size(1)), (x, k) -> x.wasted(k));
+        some(ask(x -> x.size(1)), (x, k) -> x.alike(k, 0));
+        some(ask(x -> x.size(1)), (x, l) -> x.line(l));
+        some(ask(x -> x.size(1)), (x, l) -> x.lineAt(l, x.line(l) - 1));
+        for (int k = 0; k < 6; k++) {
+            int place = k;
+            some(ask(x -> x.size(1)), (x, l) -> x.lineAt(l, place));
         }
-        for (int k = 0; k < x.size(0); k++) {
-            tell(x.cell(k));
-            tell(x.by(k));
-            tell(x.pieceOf(k));
-        }
-        for (int l = 0; l < x.size(1); l++) {
-            told.append("| ");
-            for (int k = 0; k < x.line(l); k++) {
-                tell(x.lineAt(l, k));
-            }
-            tell(x.inLine(l));
-            tell(x.wasted(l));
-            tell(x.alike(l, 0));
-            tell(x.onPage(0, l, x.line(l)));
-        }
-        for (int k = 0; k <= x.size(3); k++) {
-            tell(x, x.piece(k, 0));
-            tell(x.piece(k, 1));
-        }
-        for (int r = 0; r < x.told(0); r++) {
-            tell(x.used(r));
-            tell(x.covers(r));
-            tell(x.saving(r));
-        }
-        questions(x);
+        some(ask(x -> x.size(1)), (x, l) -> x.onPage(l / 2, l % 2, l % 4));
+        some(ask(x -> x.size(3)), (x, k) -> x.piece(k, 0));
+        some(ask(x -> x.size(3)), (x, k) -> x.piece(k, 1));
+        int rules = (int) ask(x -> x.told(0));
+        each(0, rules - 1, (x, r) -> x.used(r));
+        each(0, rules - 1, (x, r) -> x.covers(r));
+        each(0, rules - 1, (x, r) -> x.saving(r));
+        questions();
     }
 
-    private void questions(RaisedPress x) {
-        tell(x.useless());
-        tell(x.hyphens());
-        tell(x.dots());
-        tell(x, x.plain());
-        tell(x, x.fewest());
-        tell(x, x.cheapest());
-        tell(x, x.saved());
-        tell(x, x.longest());
-        tell(x, x.frequent());
-        tell(x.signs(0));
-        tell(x.signs(1));
-        tell(x.ragged());
-        tell(x, x.leastRagged());
-        tell(x, x.commonest());
-        for (int k = 0; k <= 63; k += 7) {
-            tell(x.often(k));
-            tell(x, x.dense(1 + k));
-        }
+    private void questions() {
+        ask(x -> x.useless());
+        ask(x -> x.hyphens());
+        ask(x -> x.dots());
+        ask(x -> x.plain());
+        ask(x -> x.fewest());
+        ask(x -> x.cheapest());
+        ask(x -> x.saved());
+        ask(x -> x.longest());
+        ask(x -> x.frequent());
+        each(0, 1, (x, what) -> x.signs(what));
+        ask(x -> x.ragged());
+        ask(x -> x.leastRagged());
+        ask(x -> x.commonest());
+        each(0, 9, (x, k) -> x.often(7 * k));
+        each(1, 14, (x, k) -> x.dense(k));
     }
 
-    private void wear(RaisedPress x) {
-        told.append("\nwear: ");
-        for (int sixteenths = 0; sixteenths <= 16; sixteenths++) {
-            tell(x, x.worn(31, sixteenths));
-            for (int k = -1; k <= x.size(0); k++) {
-                tell(x.wornAt(k));
-            }
-            tell(x, x.odds(31, 20, sixteenths) ? 0 : -1);
-            tell(x.top());
-            tell(x.bottom());
+    private void wear(Supplier<RaisedPress> first) {
+        for (int sixteenths = 0; sixteenths <= 16; sixteenths += 4) {
+            int less = sixteenths;
+            chapter("worn", behind(first, x -> x.worn(31, less)));
+            ask(x -> x.worn(31, less));
+            some(ask(x -> x.size(0)), (x, k) -> x.wornAt(k));
+            ask(x -> x.odds(31, 20, less) ? 100 * x.top() + x.bottom() : -1);
         }
+        chapter("behind wear", first);
     }
 
-    private void kept(RaisedPress x) {
+    private void kept() {
         told.append("\nkept: ");
-        tell(x, x.letters());
-        for (int k = -1; k < 20; k++) {
-            tell(x.firstAt(k));
-        }
-        for (int k = -1; k < 30; k++) {
-            tell(x.wornAt(k));
-        }
-        tell(x, x.reset());
-        set(x);
+        ask(x -> x.letters());
+        each(-1, 20, (x, k) -> x.firstAt(k));
+        each(-1, 30, (x, k) -> x.wornAt(k));
     }
 
-    private void tape(RaisedPress x) {
-        told.append("\ntape: ");
-        int more = x.feed(0x20202020, 0x20202020, 0x20202020, 0x20202020, 0x20202020);
-        tell(more);
-        int many = more < 0 ? 900 : more;
-        tell(x, x.press(many));
-        tell(x.fault(0));
-        tell(x.fault(1));
-        table(x);
+    private static int more(RaisedPress x) {
+        return x.feed(0x20202020, 0x20202020, 0x20202020, 0x20202020, 0x20202020);
+    }
+
+    private void tape(Supplier<RaisedPress> first) {
+        chapter("tape", first);
+        long more = askBare(x -> more(x));
+        int many = more < 0 ? 900 : (int) more;
+        ask(x -> x.press(many));
+        askBare(x -> x.fault(0));
+        askBare(x -> x.fault(1));
+        chapter("behind the tape", behind(behind(first, x -> more(x)), x -> x.press(many)));
+        table();
     }
 }

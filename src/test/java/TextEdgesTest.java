@@ -130,18 +130,16 @@ public final class TextEdgesTest {
     /** "A number comes to a place of a TRAY, cut to its sort". */
     private static void cuts() {
         KIT.promise(6);
-        RaisedPress x = new RaisedPress();
-        for (int sort = 0; sort < 4; sort++) {
-            x.tray(sort, sort, 2);
-        }
         long[] given = {0, 1, -1, 126, 127, 128, 255, 256, 257, -127, -128, -129, -256, 32766, 32767,
             32768, 65535, 65536, 65537, -32767, -32768, -32769, Integer.MAX_VALUE, 1L << 31,
             (1L << 32) - 1, 1L << 32, (1L << 32) + 1, Integer.MIN_VALUE, -(1L << 31) - 1,
             Long.MAX_VALUE, Long.MIN_VALUE};
         for (long v : given) {
+            RaisedPress x = new RaisedPress();
             long[] due = {Math.floorMod(v + 128, 256L) - 128, Math.floorMod(v + 32768, 65536L) - 32768,
                 Math.floorMod(v + (1L << 31), 1L << 32) - (1L << 31), v};
             for (int sort = 0; sort < 4; sort++) {
+                x.tray(sort, sort, 2);
                 KIT.told(x, "write(sort, 1, v)", x.write(sort, 1, v));
                 // Long.MAX_VALUE + 128 goes over: all its low bits are 1.
                 long want = v == Long.MAX_VALUE && sort < 3 ? -1 : due[sort];
